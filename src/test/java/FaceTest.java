@@ -1,0 +1,63 @@
+import java.lang.reflect.Constructor;
+import java.lang.reflect.Field;
+import java.lang.reflect.Method;
+import java.lang.reflect.Modifier;
+import java.util.NoSuchElementException;
+import java.util.Set;
+import java.util.TreeSet;
+
+/** The public face: these members, the exceptions that they name, and no other that is not private. */
+public final class FaceTest {
+    private static final Check CHECK = new Check();
+
+    public static void main(String[] args) {
+        CHECK.due("public and final", SlotFile.class.getModifiers(), Modifier.PUBLIC | Modifier.FINAL);
+        dueEqual("methods", methods(), Set.of(
+            "int insert[int, int] IAE", "boolean update[int, int, int] NSE IAE", "int delete[int] NSE",
+            "int length[int]", "int byteAt[int, int] NSE", "int where[int, int] NSE IAE", "int next[int]",
+            "int page[int, int] IAE", "int slot[int, int] IAE", "int sync[]", "int crash[int] IAE",
+            "int total[int] IAE"));
+        dueEqual("fields", fields(), Set.of("NONE " + (Modifier.PUBLIC | Modifier.STATIC | Modifier.FINAL)));
+        Constructor<?>[] constructors = SlotFile.class.getDeclaredConstructors();
+        CHECK.due("constructors", constructors.length, 1);
+        CHECK.due("its parameters", constructors[0].getParameterCount(), 0);
+        CHECK.due("it is public", constructors[0].getModifiers(), Modifier.PUBLIC);
+        for (Class<?> inner : SlotFile.class.getDeclaredClasses()) {
+            int modifiers = inner.getModifiers();
+            CHECK.due(inner + " is static", Modifier.isStatic(modifiers), true);
+            CHECK.due(inner + " is hidden", Modifier.isPublic(modifiers) || Modifier.isProtected(modifiers), false);
+        }
+        CHECK.end();
+    }
+
+    private static void dueEqual(String what, Set<String> got, Set<String> want) {
+        CHECK.due(what + " " + got + " are " + want, got.equals(want), true);
+    }
+
+    private static Set<String> methods() {
+        Set<String> all = new TreeSet<>();
+        for (Method method : SlotFile.class.getDeclaredMethods()) {
+            if (!Modifier.isPrivate(method.getModifiers())) {
+                StringBuilder text = new StringBuilder();
+                text.append(method.getReturnType()).append(' ').append(method.getName());
+                text.append(java.util.Arrays.toString(method.getParameterTypes()));
+                for (Class<?> thrown : method.getExceptionTypes()) {
+                    text.append(thrown == NoSuchElementException.class ? " NSE"
+                        : thrown == IllegalArgumentException.class ? " IAE" : " " + thrown);
+                }
+                all.add(text.toString());
+            }
+        }
+        return all;
+    }
+
+    private static Set<String> fields() {
+        Set<String> all = new TreeSet<>();
+        for (Field field : SlotFile.class.getDeclaredFields()) {
+            if (!Modifier.isPrivate(field.getModifiers())) {
+                all.add(field.getName() + " " + field.getModifiers());
+            }
+        }
+        return all;
+    }
+}
