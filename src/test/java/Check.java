@@ -9,7 +9,7 @@ final class Check {
     }
 
     // An object answers for at most 512 calls: a scene and the questions behind it stay below that.
-    private static final int QUESTIONS_PER_OBJECT = 150;
+    private static final int QUESTIONS_PER_OBJECT = 100;
 
     // The first questions ask for these.
     private static final int COUNTS = 2;

@@ -9,6 +9,7 @@ public final class CrashTest {
     public static void main(String[] args) {
         everyNumberOfChanges();
         theyAreSyncedThen();
+        chainsComeBack();
         countsStay();
         refusedChangesAreNotCounted();
         many();
@@ -88,6 +89,23 @@ public final class CrashTest {
         CHECK.due("crash to none", file.crash(0), 2);
         CHECK.due("length(0) as synced", file.length(0), 10);
         CHECK.due("its byte", file.byteAt(0, 0), 1);
+    }
+
+    private static void chainsComeBack() {
+        SlotFile file = new SlotFile();
+        file.insert(10, 1);
+        file.insert(700, 1);
+        file.sync();
+        file.delete(1);
+        file.insert(300, 2);
+        CHECK.due("the last one", file.page(2, 7), SlotFile.NONE);
+        CHECK.due("what is left", file.page(2, 8), 60);
+        CHECK.due("crash(0)", file.crash(0), 2);
+        CHECK.due("its next", file.page(2, 7), 3);
+        CHECK.due("its bytes", file.page(2, 8), 240);
+        CHECK.due("the last one's", file.page(3, 8), 220);
+        file.delete(1);
+        CHECK.due("all are freed", file.total(3), 0);
     }
 
     private static void countsStay() {

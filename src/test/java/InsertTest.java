@@ -69,6 +69,21 @@ public final class InsertTest {
         CHECK.due("57 bytes in class 2", file.insert(57, 0), 2);
         file.delete(2);
         CHECK.due("58 bytes in class 4, the least page", file.insert(58, 0), 33);
+        sameClassGoesByNumber();
+    }
+
+    private static void sameClassGoesByNumber() {
+        SlotFile file = new SlotFile();
+        file.insert(100, 0);
+        file.insert(100, 0);
+        file.insert(100, 0);
+        file.insert(100, 0);
+        file.delete(1);
+        file.update(33, 10, 0);
+        CHECK.due("room 143", file.page(0, 3), 143);
+        CHECK.due("room 128", file.page(1, 3), 128);
+        CHECK.due("one class", file.page(0, 5) + file.page(1, 5), 8);
+        CHECK.due("the least number, not the least room", file.insert(50, 0), 1);
     }
 
     private static void placesByRoomAlone() {

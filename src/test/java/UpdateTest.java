@@ -120,6 +120,22 @@ public final class UpdateTest {
         CHECK.due("73 takes all there is", stays.where(1, 0), 0);
         CHECK.due("no room", stays.page(0, 3), 0);
         awayCellsTakeFourMore();
+        aPlaceAwayNeedsFourMore();
+    }
+
+    private static void aPlaceAwayNeedsFourMore() {
+        for (int more = 0; more < 2; more++) {
+            SlotFile file = new SlotFile();
+            file.insert(100, 1);
+            file.insert(60, 2);
+            file.insert(60, 3);
+            file.insert(100, 4);
+            file.insert(40 + more, 5);
+            // Page 1 has room 248 - 8 - 101 - 41 = 98 or one less: 89, 1, 4 and the slot's 4 are 98.
+            CHECK.due("room", file.page(1, 3), 98 - more);
+            file.update(1, 89, 6);
+            CHECK.due("page with " + (98 - more), file.where(1, 0), 1 + more);
+        }
     }
 
     private static void awayCellsTakeFourMore() {
@@ -274,12 +290,9 @@ public final class UpdateTest {
         scene.accept(file);
         CHECK.due("no page is free", file.total(1), 0);
         CHECK.due("no place away", file.update(2, 34, 0), false);
-        CHECK.due("not even for the cell of another", file.update(5 * 32 + 2, 50, 0), false);
+        CHECK.due("nor from another page", file.update(5 * 32 + 2, 50, 0), false);
         CHECK.due("stays", file.update(2, 32, 0), true);
         CHECK.dueSame("an update without a place", scene, scene.andThen(x -> x.update(2, 34, 0)));
-        Consumer<SlotFile> last = scene.andThen(x -> x.delete(95 * 32 + 2));
-        CHECK.dueSame("nor where it is away", last.andThen(x -> x.update(0, 100, 1)),
-            last.andThen(x -> x.update(0, 100, 1)).andThen(x -> x.update(2, 100, 1)));
         aPlaceAwayOnlyInTheWrongPages();
     }
 
@@ -303,6 +316,8 @@ public final class UpdateTest {
         CHECK.due("none more, and no other page", file.update(2, 96, 0), false);
         CHECK.due("where it was", file.where(2, 0), 95);
         CHECK.due("as it was", file.length(2), 95);
+        Consumer<SlotFile> tight = scene.andThen(x -> x.insert(34, 0)).andThen(x -> x.update(2, 95, 0));
+        CHECK.dueSame("a refused update of one that is away", tight, tight.andThen(x -> x.update(2, 96, 0)));
     }
 
     private static void wrongInputs() {
