@@ -8,14 +8,18 @@ final class Check {
         long answer();
     }
 
-    // An object answers for at most 512 calls: a scene and the questions behind it stay below that.
-    private static final int QUESTIONS_PER_OBJECT = 100;
-
-    // The first questions ask for these.
-    private static final int COUNTS = 2;
+    interface CallOn {
+        long answer(SlotFile file);
+    }
 
     private int asked = 0;
     private int wrong = 0;
+    private String sentence = "";
+
+    /** What comes is asked for this sentence's sake: it is printed with every wrong answer. */
+    void about(String words) {
+        sentence = words + ": ";
+    }
 
     void due(String call, long got, long want) {
         asked++;
@@ -26,6 +30,48 @@ final class Check {
 
     void due(String call, boolean got, boolean want) {
         due(call, got ? 1 : 0, want ? 1 : 0);
+    }
+
+    /** All nine facts of a page. */
+    void duePage(SlotFile file, int page, int... wanted) {
+        for (int what = 0; what < 9; what++) {
+            due("page(" + page + ", " + what + ")", file.page(page, what), wanted[what]);
+        }
+    }
+
+    void dueFree(SlotFile file, int page) {
+        duePage(file, page, 0, -1, -1, -1, -1, -1, -1, -1, -1);
+    }
+
+    /** Slots, cells, room, end, class and stubs. */
+    void dueCells(SlotFile file, int page, int... six) {
+        duePage(file, page, 1, six[0], six[1], six[2], six[3], six[4], six[5], -1, -1);
+    }
+
+    void dueChain(SlotFile file, int page, int next, int bytes) {
+        duePage(file, page, 2, -1, -1, -1, -1, -1, -1, next, bytes);
+    }
+
+    /** What the slots of a page have, and that there is none behind the last one. */
+    void dueSlots(SlotFile file, int page, int... wanted) {
+        for (int slot = 0; slot < wanted.length; slot++) {
+            due("slot(" + page + ", " + slot + ")", file.slot(page, slot), wanted[slot]);
+        }
+        due("slot(" + page + ", " + wanted.length + ")", file.slot(page, wanted.length), -1);
+    }
+
+    /** Page and slot of the value, how many chain pages, the first of them. */
+    void dueWhere(SlotFile file, int record, int... wanted) {
+        for (int what = 0; what < 4; what++) {
+            due("where(" + record + ", " + what + ")", file.where(record, what), wanted[what]);
+        }
+    }
+
+    /** Records, free pages, pages of cells, of chains, records away, changes, compactions, crashes. */
+    void dueTotals(SlotFile file, int... wanted) {
+        for (int what = 0; what < 8; what++) {
+            due("total(" + what + ")", file.total(what), wanted[what]);
+        }
     }
 
     void dueThrow(String call, Class<? extends RuntimeException> want, Call made) {
@@ -41,41 +87,56 @@ final class Check {
 
     /** Two ways to a state must leave objects that no question tells apart. */
     void dueSame(String what, Consumer<SlotFile> one, Consumer<SlotFile> other) {
-        compare(what, everything(one), everything(other), 0);
+        compare(what, Picture.of(one), Picture.of(other), 0);
     }
 
     /** The same, but for the counts of compactions and crashes, which a crash leaves as they are. */
     void dueSameButCounts(String what, Consumer<SlotFile> one, Consumer<SlotFile> other) {
-        compare(what, everything(one), everything(other), COUNTS);
+        compare(what, Picture.of(one), Picture.of(other), Picture.COUNTS);
     }
 
     private void compare(String what, List<String> first, List<String> second, int from) {
         asked++;
-        for (int i = from; i < first.size(); i++) {
-            if (!first.get(i).equals(second.get(i))) {
-                report(what + ": " + first.get(i) + ", but " + second.get(i));
+        for (int i = from; i < first.size() || i < second.size(); i++) {
+            String here = i < first.size() ? first.get(i) : "nothing";
+            String there = i < second.size() ? second.get(i) : "nothing";
+            if (!here.equals(there)) {
+                report(what + ": " + here + ", but " + there);
                 return;
             }
         }
     }
 
-    /** A call that throws in some scene must throw the right thing and change nothing. */
-    void dueThrowAndSame(String call, Class<? extends RuntimeException> want,
-            Consumer<SlotFile> scene, Consumer<SlotFile> made) {
+    /** A call that is refused in some scene must say so and change nothing. */
+    void dueAndSame(String call, long want, Consumer<SlotFile> scene, CallOn made) {
         SlotFile file = new SlotFile();
         scene.accept(file);
-        dueThrow(call, want, () -> {
-            made.accept(file);
-            return 0;
-        });
+        due(call, made.answer(file), want);
+        dueSame(call + " changes something", scene, scene.andThen(made::answer));
+    }
+
+    /** A call that throws in some scene must throw the right thing and change nothing. */
+    void dueThrowAndSame(String call, Class<? extends RuntimeException> want, Consumer<SlotFile> scene, CallOn made) {
+        SlotFile file = new SlotFile();
+        scene.accept(file);
+        dueThrow(call, want, () -> made.answer(file));
         dueSame(call + " changes something", scene, x -> {
             scene.accept(x);
-            try {
-                made.accept(x);
-            } catch (RuntimeException expected) {
-                return;
-            }
+            callCaught(x, made);
         });
+    }
+
+    /** An update's answer as a number, 1 or 0. */
+    static int update(SlotFile file, int record, int length, int seed) {
+        return file.update(record, length, seed) ? 1 : 0;
+    }
+
+    static void callCaught(SlotFile file, CallOn made) {
+        try {
+            made.answer(file);
+        } catch (RuntimeException expected) {
+            return;
+        }
     }
 
     void end() {
@@ -88,50 +149,76 @@ final class Check {
     private void report(String text) {
         wrong++;
         if (wrong <= 50) {
-            System.out.println(text);
+            System.out.println(sentence + text);
         }
     }
 
-    private interface Question {
-        String ask(SlotFile file);
-    }
+    /** Every answer that tells something of a file, asked of objects that go the same way to it. */
+    private static final class Picture {
+        // The first answers are these.
+        static final int COUNTS = 2;
 
-    private static List<String> everything(Consumer<SlotFile> scene) {
-        List<Question> questions = questions();
-        List<String> answers = new ArrayList<>();
-        SlotFile file = null;
-        for (int i = 0; i < questions.size(); i++) {
-            if (i % QUESTIONS_PER_OBJECT == 0) {
+        // An object answers for at most 512 calls: a scene has up to 300 of them.
+        private static final int CALLS_PER_OBJECT = 200;
+
+        private final Consumer<SlotFile> scene;
+        private final List<String> answers = new ArrayList<>();
+        private SlotFile file;
+        private int left = 0;
+
+        private Picture(Consumer<SlotFile> scene) {
+            this.scene = scene;
+        }
+
+        static List<String> of(Consumer<SlotFile> scene) {
+            Picture picture = new Picture(scene);
+            for (int what = 7; what >= 0; what--) {
+                picture.note("total(" + what + ")", picture.object().total(what));
+            }
+            for (int page = 0; page < 96; page++) {
+                picture.askPage(page);
+            }
+            for (int record = -1; record <= 96 * 32; record++) {
+                picture.askRecord(record);
+            }
+            return picture.answers;
+        }
+
+        private SlotFile object() {
+            if (left == 0) {
                 file = new SlotFile();
                 scene.accept(file);
+                left = CALLS_PER_OBJECT;
             }
-            answers.add(questions.get(i).ask(file));
+            left--;
+            return file;
         }
-        return answers;
-    }
 
-    private static List<Question> questions() {
-        List<Question> all = new ArrayList<>();
-        for (int w = 7; w >= 0; w--) {
-            int what = w;
-            all.add(x -> "total(" + what + ") = " + x.total(what));
+        private int note(String call, int answer) {
+            answers.add(call + " = " + answer);
+            return answer;
         }
-        for (int p = 0; p < 96; p++) {
-            int page = p;
-            for (int w = 0; w < 9; w++) {
-                int what = w;
-                all.add(x -> "page(" + page + ", " + what + ") = " + x.page(page, what));
+
+        private void askPage(int page) {
+            for (int what = 0; what < 9; what++) {
+                note("page(" + page + ", " + what + ")", object().page(page, what));
+            }
+            for (int slot = 0; slot <= 32; slot++) {
+                note("slot(" + page + ", " + slot + ")", object().slot(page, slot));
             }
         }
-        for (int r = 0; r < 4 * 32; r++) {
-            int record = r;
-            all.add(x -> "slot of " + record + " = " + x.slot(record / 32, record % 32));
-            all.add(x -> "length(" + record + ") = " + x.length(record));
-            all.add(x -> "next(" + record + ") = " + x.next(record));
-            all.add(x -> "first byte of " + record + " = " + (x.length(record) < 0 ? "" : x.byteAt(record, 0)));
-            all.add(x -> "page of " + record + " = " + (x.length(record) < 0 ? "" : x.where(record, 0)));
-            all.add(x -> "chain of " + record + " = " + (x.length(record) < 0 ? "" : x.where(record, 3)));
+
+        private void askRecord(int record) {
+            note("next(" + record + ")", object().next(record));
+            int length = note("length(" + record + ")", object().length(record));
+            if (length < 0) {
+                return;
+            }
+            note("first byte of " + record, object().byteAt(record, 0));
+            note("last byte of " + record, object().byteAt(record, length - 1));
+            for (int what = 0; what < 4; what++) {
+                note("where(" + record + ", " + what + ")", object().where(record, what));
+            }
         }
-        return all;
     }
 }

@@ -4,25 +4,25 @@ public final class SlotTest {
 
     public static void main(String[] args) {
         SlotFile file = new SlotFile();
-        due(file, 0, -1, -1);
+        CHECK.dueSlots(file, 0);
         file.insert(100, 1);
         file.insert(60, 1);
         file.insert(60, 1);
-        due(file, 0, 1, 1, 1, -1);
+        CHECK.dueSlots(file, 0, 1, 1, 1);
         file.update(1, 90, 1);
-        due(file, 0, 1, 2, 1, -1);
-        due(file, 1, 3, -1);
+        CHECK.dueSlots(file, 0, 1, 2, 1);
+        CHECK.dueSlots(file, 1, 3);
         file.insert(101, 1);
-        due(file, 0, 1, 2, 1, 1, -1);
-        due(file, 2, -1, -1);
+        CHECK.dueSlots(file, 0, 1, 2, 1, 1);
+        CHECK.dueSlots(file, 2);
         file.delete(0);
-        due(file, 0, 0, 2, 1, 1, -1);
+        CHECK.dueSlots(file, 0, 0, 2, 1, 1);
         file.delete(2);
         file.delete(3);
-        due(file, 0, 0, 2, -1, -1);
+        CHECK.dueSlots(file, 0, 0, 2);
         file.update(1, 10, 1);
-        due(file, 0, 0, 1, -1);
-        due(file, 1, -1);
+        CHECK.dueSlots(file, 0, 0, 1);
+        CHECK.dueSlots(file, 1);
         CHECK.due("slot(0, 31)", file.slot(0, 31), -1);
         CHECK.due("slot(0, 32)", file.slot(0, 32), -1);
         CHECK.due("slot(95, 0)", file.slot(95, 0), -1);
@@ -35,11 +35,5 @@ public final class SlotTest {
                 () -> file.slot(row[0], row[1]));
         }
         CHECK.end();
-    }
-
-    private static void due(SlotFile file, int page, int... wanted) {
-        for (int slot = 0; slot < wanted.length; slot++) {
-            CHECK.due("slot(" + page + ", " + slot + ")", file.slot(page, slot), wanted[slot]);
-        }
     }
 }

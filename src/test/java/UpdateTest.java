@@ -329,14 +329,14 @@ public final class UpdateTest {
         int[] noRecords = {2, 3, 33, 34, 64, -1, 3071, 3072, Integer.MIN_VALUE, Integer.MAX_VALUE};
         for (int record : noRecords) {
             CHECK.dueThrowAndSame("update(" + record + ", 5, 5)", NoSuchElementException.class, scene,
-                x -> x.update(record, 5, 5));
+                x -> Check.update(x, record, 5, 5));
         }
         int[][] wrong = {{-1, 0}, {1201, 0}, {0, -1}, {0, 256}, {Integer.MIN_VALUE, 0}, {0, Integer.MAX_VALUE}};
         for (int[] row : wrong) {
             CHECK.dueThrowAndSame("update(1, " + row[0] + ", " + row[1] + ")", IllegalArgumentException.class, scene,
-                x -> x.update(1, row[0], row[1]));
+                x -> Check.update(x, 1, row[0], row[1]));
         }
         CHECK.dueThrowAndSame("update(2, -1, 0): the record first", NoSuchElementException.class, scene,
-            x -> x.update(2, -1, 0));
+            x -> Check.update(x, 2, -1, 0));
     }
 }

@@ -9,14 +9,14 @@ public final class WhereTest {
         file.insert(60, 1);
         file.insert(60, 1);
         int longOne = file.insert(700, 1);
-        due(check, file, 0, 0, 0, 0, SlotFile.NONE);
-        due(check, file, 2, 0, 2, 0, SlotFile.NONE);
+        check.dueWhere(file, 0, 0, 0, 0, SlotFile.NONE);
+        check.dueWhere(file, 2, 0, 2, 0, SlotFile.NONE);
         check.due("the long one's cell fits by room alone", longOne, 3);
-        due(check, file, longOne, 0, 3, 3, 1);
+        check.dueWhere(file, longOne, 0, 3, 3, 1);
         file.update(1, 100, 1);
-        due(check, file, 1, 4, 0, 0, SlotFile.NONE);
+        check.dueWhere(file, 1, 4, 0, 0, SlotFile.NONE);
         file.update(1, 480, 1);
-        due(check, file, 1, 0, 1, 2, 5);
+        check.dueWhere(file, 1, 0, 1, 2, 5);
         int[] wrong = {-1, 4, Integer.MIN_VALUE, Integer.MAX_VALUE};
         for (int what : wrong) {
             check.dueThrow("where(1, " + what + ")", IllegalArgumentException.class, () -> file.where(1, what));
@@ -31,11 +31,5 @@ public final class WhereTest {
             }
         }
         check.end();
-    }
-
-    private static void due(Check check, SlotFile file, int record, int... wanted) {
-        for (int what = 0; what < 4; what++) {
-            check.due("where(" + record + ", " + what + ")", file.where(record, what), wanted[what]);
-        }
     }
 }
