@@ -7,6 +7,7 @@ public final class AnswerEdgesTest {
     public static void main(String[] args) {
         lengthOfNone();
         bytesBehindTheEnd();
+        lengthOfADeletedOne();
         firstOfNoChain();
         lastPageOfAChain();
         factsOfOtherPages();
@@ -70,6 +71,23 @@ public final class AnswerEdgesTest {
         file.update(33, 1200, 0);
         CHECK.due("byte 1199", file.byteAt(33, 1199), (7 * 1199 + 74) % 256);
         CHECK.due("byte 1200", file.byteAt(33, 1200), -1);
+    }
+
+    private static void lengthOfADeletedOne() {
+        CHECK.about("DELETING: how long its value was");
+        for (int length : new int[] {0, 1, 4, 5, 100, 101, 240, 241, 1200}) {
+            SlotFile file = new SlotFile();
+            int record = file.insert(length, 1);
+            CHECK.due("delete of " + length, file.delete(record), length);
+            CHECK.due("length behind it", file.length(record), -1);
+            CHECK.dueTotals(file, 0, 96, 0, 0, 0, 2, 0, 0);
+            Scenes.tightHome(file);
+            file.update(3, length, 1);
+            CHECK.due("delete of record 3 with " + length, file.delete(3), length);
+            CHECK.due("length(3)", file.length(3), -1);
+            CHECK.dueSlots(file, 0, 1, 1, 1);
+            CHECK.dueTotals(file, 3, 95, 1, 0, 0, 8, 0, 0);
+        }
     }
 
     private static void firstOfNoChain() {

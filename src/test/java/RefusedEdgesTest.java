@@ -25,7 +25,8 @@ public final class RefusedEdgesTest {
     }
 
     private static void dueRefusedUpdate(Consumer<SlotFile> scene, int record, int length) {
-        CHECK.dueAndSame("update(" + record + ", " + length + ", 9)", 0, scene, x -> Check.update(x, record, length, 9));
+        CHECK.dueAndSame("update(" + record + ", " + length + ", 9)", 0, scene,
+            x -> Check.update(x, record, length, 9));
     }
 
     private static SlotFile at(Consumer<SlotFile> scene) {
