@@ -1,4 +1,3 @@
-import java.util.ArrayList;
 import java.util.List;
 import java.util.function.Consumer;
 
@@ -95,7 +94,8 @@ final class Check {
         compare(what, Picture.of(one), Picture.of(other), Picture.COUNTS);
     }
 
-    private void compare(String what, List<String> first, List<String> second, int from) {
+    /** Two pictures, but for their first answers, must be the same. */
+    void compare(String what, List<String> first, List<String> second, int from) {
         asked++;
         for (int i = from; i < first.size() || i < second.size(); i++) {
             String here = i < first.size() ? first.get(i) : "nothing";
@@ -150,75 +150,6 @@ final class Check {
         wrong++;
         if (wrong <= 50) {
             System.out.println(sentence + text);
-        }
-    }
-
-    /** Every answer that tells something of a file, asked of objects that go the same way to it. */
-    private static final class Picture {
-        // The first answers are these.
-        static final int COUNTS = 2;
-
-        // An object answers for at most 512 calls: a scene has up to 300 of them.
-        private static final int CALLS_PER_OBJECT = 200;
-
-        private final Consumer<SlotFile> scene;
-        private final List<String> answers = new ArrayList<>();
-        private SlotFile file;
-        private int left = 0;
-
-        private Picture(Consumer<SlotFile> scene) {
-            this.scene = scene;
-        }
-
-        static List<String> of(Consumer<SlotFile> scene) {
-            Picture picture = new Picture(scene);
-            for (int what = 7; what >= 0; what--) {
-                picture.note("total(" + what + ")", picture.object().total(what));
-            }
-            for (int page = 0; page < 96; page++) {
-                picture.askPage(page);
-            }
-            for (int record = -1; record <= 96 * 32; record++) {
-                picture.askRecord(record);
-            }
-            return picture.answers;
-        }
-
-        private SlotFile object() {
-            if (left == 0) {
-                file = new SlotFile();
-                scene.accept(file);
-                left = CALLS_PER_OBJECT;
-            }
-            left--;
-            return file;
-        }
-
-        private int note(String call, int answer) {
-            answers.add(call + " = " + answer);
-            return answer;
-        }
-
-        private void askPage(int page) {
-            for (int what = 0; what < 9; what++) {
-                note("page(" + page + ", " + what + ")", object().page(page, what));
-            }
-            for (int slot = 0; slot <= 32; slot++) {
-                note("slot(" + page + ", " + slot + ")", object().slot(page, slot));
-            }
-        }
-
-        private void askRecord(int record) {
-            note("next(" + record + ")", object().next(record));
-            int length = note("length(" + record + ")", object().length(record));
-            if (length < 0) {
-                return;
-            }
-            note("first byte of " + record, object().byteAt(record, 0));
-            note("last byte of " + record, object().byteAt(record, length - 1));
-            for (int what = 0; what < 4; what++) {
-                note("where(" + record + ", " + what + ")", object().where(record, what));
-            }
         }
     }
 }

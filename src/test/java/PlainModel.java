@@ -6,7 +6,7 @@ import java.util.NoSuchElementException;
  * The document told once more, as plainly as it goes: each change is tried on a copy of the file, which is
  * thrown away if the change is refused and kept for crashes if not; cells lie at their bytes.
  */
-final class PlainModel {
+final class PlainModel implements Picture.Answers {
     private static final class Cell {
         int kind;
         int offset;
@@ -397,16 +397,19 @@ final class PlainModel {
         return length;
     }
 
-    int length(int record) {
+    @Override
+    public int length(int record) {
         return state.home(record) == null ? -1 : valueOf(record).bytes.length;
     }
 
-    int byteAt(int record, int i) {
+    @Override
+    public int byteAt(int record, int i) {
         Cell cell = valueOf(record);
         return i < 0 || i >= cell.bytes.length ? -1 : cell.bytes[i] & 255;
     }
 
-    int where(int record, int what) {
+    @Override
+    public int where(int record, int what) {
         Cell cell = valueOf(record);
         mustBe(what >= 0 && what <= 3);
         int place = state.placeOf(record);
@@ -414,7 +417,8 @@ final class PlainModel {
         return new int[] {place / 32, place % 32, cell.chain.length, first}[what];
     }
 
-    int next(int record) {
+    @Override
+    public int next(int record) {
         for (long i = Math.max(0L, record + 1L); i < 96 * 32; i++) {
             if (state.home((int) i) != null) {
                 return (int) i;
@@ -423,7 +427,8 @@ final class PlainModel {
         return -1;
     }
 
-    int page(int page, int what) {
+    @Override
+    public int page(int page, int what) {
         mustBe(page >= 0 && page <= 95 && what >= 0 && what <= 8);
         Page p = state.pages[page];
         if (what == 0) {
@@ -436,7 +441,8 @@ final class PlainModel {
         return p.kind == 1 ? facts[what] : -1;
     }
 
-    int slot(int page, int slot) {
+    @Override
+    public int slot(int page, int slot) {
         mustBe(page >= 0 && page <= 95 && slot >= 0);
         Page p = state.pages[page];
         if (slot >= p.slots()) {
@@ -461,7 +467,8 @@ final class PlainModel {
         return changes - k;
     }
 
-    int total(int what) {
+    @Override
+    public int total(int what) {
         mustBe(what >= 0 && what <= 7);
         switch (what) {
             case 0:
