@@ -26,8 +26,34 @@ public final class FaceTest {
             int modifiers = inner.getModifiers();
             CHECK.due(inner + " is static", Modifier.isStatic(modifiers), true);
             CHECK.due(inner + " is hidden", Modifier.isPublic(modifiers) || Modifier.isProtected(modifiers), false);
+            dueNoNamesOfTheFace(inner);
+            dueConstantsAlone(inner);
         }
+        dueNoNamesOfTheFace(SlotFile.class);
+        dueConstantsAlone(SlotFile.class);
         CHECK.end();
+    }
+
+    /** No private method bears the name of a public one. */
+    private static void dueNoNamesOfTheFace(Class<?> type) {
+        Set<String> names = new TreeSet<>();
+        for (Method method : SlotFile.class.getMethods()) {
+            names.add(method.getName());
+        }
+        for (Method method : type.getDeclaredMethods()) {
+            boolean isOfTheFace = type == SlotFile.class && Modifier.isPublic(method.getModifiers());
+            CHECK.due(method + " has its own name", isOfTheFace || !names.contains(method.getName()), true);
+        }
+    }
+
+    /** Static fields are final, so that objects share nothing and no answer hangs on another object. */
+    private static void dueConstantsAlone(Class<?> type) {
+        for (Field field : type.getDeclaredFields()) {
+            int modifiers = field.getModifiers();
+            if (Modifier.isStatic(modifiers)) {
+                CHECK.due(field + " is a constant", Modifier.isFinal(modifiers) && field.getType() == int.class, true);
+            }
+        }
     }
 
     private static void dueEqual(String what, Set<String> got, Set<String> want) {

@@ -62,8 +62,9 @@ final class MixedRun {
         seen.begin(model);
         start();
         while (calls.size() < CALLS) {
+            int pictures = calls.size() / CALLS_BETWEEN_PICTURES;
             call();
-            if (calls.size() % CALLS_BETWEEN_PICTURES == 0) {
+            if (calls.size() / CALLS_BETWEEN_PICTURES > pictures) {
                 comparePictures();
             }
         }
@@ -76,14 +77,16 @@ final class MixedRun {
     }
 
     private void start() {
+        if (mix != Mix.PAGES_AGAIN) {
+            startWithTightHomes();
+        }
         if (mix == Mix.NEARLY_FULL_OF_CHAINS) {
             for (int i = 0; i < 18; i++) {
                 insert(1200, i);
             }
         } else if (mix == Mix.NEARLY_FULL_OF_CELLS) {
             startFullOfCells();
-        } else if (mix != Mix.PAGES_AGAIN) {
-            startWithTightHomes();
+            fillWhole();
         }
     }
 
@@ -95,7 +98,7 @@ final class MixedRun {
             insert(24 - random.nextInt(3), 3);
             insert(4, 4);
         }
-        if (mix == Mix.MOVES) {
+        if (mix == Mix.MOVES || mix == Mix.NEARLY_FULL_OF_CELLS) {
             startWithLeastOnesAway();
         }
     }
@@ -119,12 +122,12 @@ final class MixedRun {
         return 32 * random.nextInt(TIGHT_HOMES) + 3;
     }
 
-    /** 17 chains of three pages with their cells, which leave room 27, then full pages: up to five stay free. */
+    /** 17 chains of three pages with their cells, which leave room 27, then full pages: one to five stay free. */
     private void startFullOfCells() {
         for (int i = 0; i < 17; i++) {
             insert(720, i);
         }
-        int pages = 44 - random.nextInt(6);
+        int pages = 39 - random.nextInt(5);
         for (int i = 0; i < pages; i++) {
             insert(100, 1);
             insert(100, 2);
@@ -137,7 +140,9 @@ final class MixedRun {
     private void call() {
         int choice = random.nextInt(mix.inserts + mix.updates + mix.deletes + mix.crashes);
         int records = model.total(0);
-        if (mix.isNearlyFull() && random.nextInt(3) == 0) {
+        if (mix.isNearlyFull() && random.nextInt(25) == 0) {
+            fillWhole();
+        } else if (mix.isNearlyFull() && random.nextInt(3) == 0) {
             fillUp();
         } else if (records == 0 || choice < mix.inserts && records < mix.records) {
             insert(someLength(-1), random.nextInt(256));
@@ -151,18 +156,35 @@ final class MixedRun {
         }
     }
 
-    /** Takes the free pages but two at most, or what room some page has. */
+    /** Takes the free pages but one or two, or what room some page has. */
     private void fillUp() {
         int free = model.total(1);
         if (free > 2) {
-            insert(within(240 * (free - random.nextInt(3))), 8);
+            insert(within(240 * (free - 1 - random.nextInt(2))), 8);
             return;
         }
-        int page = 0;
-        while (page < 95 && (model.page(page, 0) != 1 || model.page(page, 3) < 9)) {
-            page++;
+        for (int page = 0; page < 96; page++) {
+            if (model.page(page, 3) >= 9) {
+                fill(page);
+                return;
+            }
         }
-        fill(page);
+    }
+
+    /** Until nothing has a place but the free pages; then a chain would take just these. */
+    private void fillWhole() {
+        for (int i = 0; i < 6 && calls.size() < CALLS - 2; i++) {
+            fillUp();
+        }
+        insert(lengthOfAllFreePages(), 9);
+        int record = someTightRecord();
+        if (model.length(record) >= 0) {
+            update(record, lengthOfAllFreePages(), 9);
+        }
+    }
+
+    private int lengthOfAllFreePages() {
+        return Math.max(101, within(240 * model.total(1)));
     }
 
     private void due(String call, long got, long want, Consumer<SlotFile> again) {
@@ -212,7 +234,7 @@ final class MixedRun {
         int start = random.nextInt(96 * 32);
         // Mostly the same ones again and again, so that something comes of them.
         if (random.nextInt(4) > 0) {
-            start = mix == Mix.NEARLY_FULL_OF_CELLS ? random.nextInt(4) * 640 : someTightRecord();
+            start = someTightRecord();
         }
         int record = model.next(start - 1);
         return record < 0 ? model.next(-1) : record;
@@ -225,6 +247,9 @@ final class MixedRun {
             return Math.min(100, within(model.page(model.where(tight, 0), 3) - 5 - random.nextInt(3)));
         }
         int nearby = random.nextInt(3) - 1;
+        if (mix.isNearlyFull() && random.nextInt(4) == 0) {
+            return within(240 * model.total(1) + nearby);
+        }
         int page = random.nextInt(Math.min(96, 1 + model.total(2) + model.total(3)));
         switch (random.nextInt(12)) {
             case 0:
@@ -232,11 +257,11 @@ final class MixedRun {
             case 1:
                 return within(240 * (1 + random.nextInt(5)) + nearby);
             case 2:
-                return within(240 * model.total(1) + nearby);
-            case 3:
                 return 101 + random.nextInt(1100);
+            case 3:
+                return random.nextInt(12);
             case 4:
-                return random.nextInt(random.nextBoolean() ? 12 : 101);
+                return random.nextInt(101);
             case 5:
                 return within(model.page(page, 3) - 5 - (record < 0 ? 0 : 4) + nearby);
             case 6:

@@ -28,8 +28,11 @@ public final class MixedRunsTest {
 
     private static final String[] REFUSED = {
         "insert is refused, no pages", "insert is refused, no place",
+        "insert is refused, no place behind its chain",
         "update at home is refused, no pages", "update at home is refused, no place",
-        "update away is refused, no pages", "update away is refused, no place"};
+        "update at home is refused, no place behind its chain",
+        "update away is refused, no pages", "update away is refused, no place",
+        "update away is refused, no place behind its chain"};
 
     private static final String[] CRASHES = {
         "crash to no change", "crash to some changes", "crash to all changes",

@@ -9,6 +9,11 @@ public final class NearlyFullRunTest {
         pagesAgain(chains);
         chains.check();
         chains.checkCrashes();
+        Story tight = new Story(CHECK);
+        fullBehindATightHome(tight);
+        chainsWithoutAPlace(tight);
+        tight.check();
+        tight.checkCrashes();
         Story cells = new Story(CHECK);
         fullOfCells(cells);
         onePlaceLeft(cells);
@@ -72,6 +77,38 @@ public final class NearlyFullRunTest {
             .delete(2913, 100).free(91)
             .insert(240, 36, 3042).chain(3042, 95, 2, 91).cells(95, 4, 4, 12, 225, 0, 0)
             .totals(22, 0, 2, 94, 0, 38, 5, 0);
+    }
+
+    private static void fullBehindATightHome(Story story) {
+        story.insert(100, 1, 0).insert(100, 2, 1).insert(24, 3, 2).insert(4, 4, 3);
+        for (int i = 0; i < 18; i++) {
+            story.insert(1200, i, 192 + i);
+        }
+        story.cells(6, 18, 18, 14, 162, 0, 0).free(92, 95)
+            .insert(720, 18, 210).chain(210, 6, 18, 92, 93, 94).cells(6, 19, 19, 1, 171, 0, 0).free(95)
+            .totals(23, 1, 2, 93, 0, 23, 0, 0)
+            // The last page would be its chain's, and there is none for its cell.
+            .updateRefused(3, 101, 1).updateRefused(3, 240, 1).updateRefused(3, 241, 1)
+            .update(3, 100, 5).at(3, 95, 0).cells(95, 1, 1, 139, 105, 4, 0).cells(0, 4, 4, 0, 232, 0, 1)
+            .totals(23, 0, 3, 93, 1, 24, 0, 0)
+            .updateRefused(3, 101, 6).value(3, 100, 5)
+            .insert(100, 7, 3041).cells(95, 2, 2, 34, 206, 1, 0)
+            .insert(29, 8, 3042).cells(95, 3, 3, 0, 236, 0, 0).slots(95, 3, 1, 1);
+    }
+
+    private static void chainsWithoutAPlace(Story story) {
+        story.delete(192, 1200).free(1, 2, 3, 4, 5).cells(6, 19, 18, 10, 171, 0, 0)
+            .update(3, 5, 9).at(3, 95, 0).cells(95, 3, 3, 95, 236, 3, 0)
+            .insert(90, 10, 3043).cells(95, 4, 4, 0, 141 + 91, 0, 0).totals(25, 5, 3, 88, 1, 29, 1, 0)
+            // Five pages for its chain, none for its 13 bytes, and 10 where it is.
+            .updateRefused(3, 1200, 11).at(3, 95, 0).value(3, 5, 9)
+            .update(3, 960, 12).chain(3, 5, 0, 1, 2, 3, 4).cells(5, 1, 1, 231, 13, 7, 0).slots(5, 3)
+            .cells(95, 4, 3, 10, 232, 0, 0).slots(95, 0, 1, 1, 1).totals(25, 0, 4, 92, 1, 30, 1, 0)
+            .updateRefused(3, 101, 13)
+            .update(3, 7, 14).at(3, 5, 0).cells(5, 1, 1, 232, 13, 7, 0).free(1, 2, 3, 4)
+            .totals(25, 4, 4, 88, 1, 31, 1, 0)
+            .delete(3, 7).free(5).cells(0, 3, 3, 9, 232, 0, 0).slots(0, 1, 1, 1)
+            .insert(4, 15, 3).cells(0, 4, 4, 0, 227 + 5, 0, 0).totals(25, 5, 3, 88, 0, 33, 2, 0);
     }
 
     private static void fullOfCells(Story story) {

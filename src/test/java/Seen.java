@@ -110,8 +110,8 @@ final class Seen {
     }
 
     private void noteRefused(String call, int newLength) {
-        boolean hasPages = newLength <= 100 || (newLength + 239) / 240 <= model.total(1);
-        note(call + " is refused, no " + (hasPages ? "place" : "pages"));
+        boolean hasPages = (newLength + 239) / 240 <= model.total(1);
+        note(call + " is refused, no " + (newLength <= 100 ? "place" : hasPages ? "place behind its chain" : "pages"));
     }
 
     private void notePages() {
